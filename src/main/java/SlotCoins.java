@@ -1242,7 +1242,7 @@ public final class SlotCoins {
         }
 
         void spread(int[] height, int at, int wanted) {
-            int top = Math.min(wanted, TOP_SUM);
+            int top = Math.max(0, Math.min(wanted, TOP_SUM));
             for (int sum = 0; sum <= top; sum++) {
                 least[sum] = FAR;
             }
@@ -1380,8 +1380,8 @@ public final class SlotCoins {
             for (int i = 0; i < state.sorts.many; i++) {
                 passesAs[i] = odd[i] > 0 ? passingSet(i) : 0;
             }
-            int least = Integer.MAX_VALUE;
-            for (int set = 0; set < 1 << state.sorts.many; set++) {
+            int least = cutOf(0);
+            for (int set = 1; set < 1 << state.sorts.many; set++) {
                 least = Math.min(least, cutOf(set));
             }
             return least;
@@ -1569,12 +1569,12 @@ public final class SlotCoins {
         private static final int BITS = 6;
         private static final int UNKNOWN = 63;
 
-        final State machinery;
+        final State state;
         /** Six bits for each number of DAYS, so that one row of STATES does for all. */
         final long[] known = new long[STATES];
 
-        Filler(State machinery) {
-            this.machinery = machinery;
+        Filler(State state) {
+            this.state = state;
         }
 
         int leastDry(int h) {
@@ -1584,11 +1584,11 @@ public final class SlotCoins {
 
         int filledOn(int h, int day) {
             forget();
-            int state = atFirst();
+            int code = atFirst();
             for (int d = 0; d < day; d++) {
-                state = step(state, firstFilled(h - d, state)) % STATES;
+                code = step(code, firstFilled(h - d, code)) % STATES;
             }
-            return firstFilled(h - day, state);
+            return firstFilled(h - day, code);
         }
 
         private void forget() {
@@ -1596,52 +1596,52 @@ public final class SlotCoins {
         }
 
         private int atFirst() {
-            int state = 0;
+            int code = 0;
             for (int m = MOST_MACHINES - 1; m >= 0; m--) {
-                state = state * BASE + (m < machinery.machines ? machinery.left[m] : 0);
+                code = code * BASE + (m < state.machines ? state.left[m] : 0);
             }
-            return state;
+            return code;
         }
 
-        private int firstFilled(int days, int state) {
-            int fewest = least(days, state);
-            for (int m = 0; m < machinery.machines; m++) {
-                if (dryWith(days, state, m) == fewest) {
+        private int firstFilled(int days, int code) {
+            int fewest = least(days, code);
+            for (int m = 0; m < state.machines; m++) {
+                if (dryWith(days, code, m) == fewest) {
                     return m;
                 }
             }
             return NONE;
         }
 
-        private int least(int days, int state) {
+        private int least(int days, int code) {
             if (days <= 0) {
                 return 0;
             }
             int shift = BITS * (days - 1);
-            int before = (int) (known[state] >> shift) & UNKNOWN;
+            int before = (int) (known[code] >> shift) & UNKNOWN;
             if (before != UNKNOWN) {
                 return before;
             }
             int fewest = UNKNOWN;
-            for (int m = 0; m < machinery.machines; m++) {
-                fewest = Math.min(fewest, dryWith(days, state, m));
+            for (int m = 0; m < state.machines; m++) {
+                fewest = Math.min(fewest, dryWith(days, code, m));
             }
-            known[state] ^= (long) (UNKNOWN ^ fewest) << shift;
+            known[code] ^= (long) (UNKNOWN ^ fewest) << shift;
             return fewest;
         }
 
-        private int dryWith(int days, int state, int filled) {
-            int next = step(state, filled);
+        private int dryWith(int days, int code, int filled) {
+            int next = step(code, filled);
             return next / STATES + least(days - 1, next % STATES);
         }
 
-        /** The state behind a DAY, and STATES times how many were DRY. */
-        private int step(int state, int filled) {
-            int rest = state;
+        /** The number behind a DAY, and STATES times how many were DRY. */
+        private int step(int code, int filled) {
+            int rest = code;
             int next = 0;
             int place = 1;
-            for (int m = 0; m < machinery.machines; m++) {
-                int left = m == filled ? machinery.full[m] : rest % BASE;
+            for (int m = 0; m < state.machines; m++) {
+                int left = m == filled ? state.full[m] : rest % BASE;
                 rest /= BASE;
                 next += left == 0 ? STATES : (left - 1) * place;
                 place *= BASE;
