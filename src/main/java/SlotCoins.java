@@ -375,11 +375,11 @@ public final class SlotCoins {
             }
         }
         need(within(chance, 1, 9));
-        if (now.buyers >= MOST_BUYERS) {
-            return NONE;
+        int number = now.addBuyer(good, coins, chance);
+        if (number != NONE) {
+            now.tellCoins(number, a, b, c, d);
         }
-        now.tellCoins(a, b, c, d);
-        return now.addBuyer(good, coins, chance);
+        return number;
     }
 
     public long most(int n) throws IllegalArgumentException {
@@ -431,7 +431,6 @@ public final class SlotCoins {
 
     public int pour(int tray, int tube)
             throws NoSuchElementException, IllegalStateException, IllegalArgumentException {
-        needThere(within(tray, 0, TRAYS - 1));
         needSort(tube);
         Tray from = trayAt(tray);
         need(from.holdsSorts(now.sorts.many));
@@ -810,18 +809,6 @@ public final class SlotCoins {
             return goods - 1;
         }
 
-        /** The coins of the BUYER that addBuyer adds next: a method takes only seven parameters. */
-        void tellCoins(int a, int b, int c, int d) {
-            if (buyers >= MOST_BUYERS) {
-                return;
-            }
-            int at = buyers * BUYER_COINS;
-            coin[at] = a;
-            coin[at + 1] = b;
-            coin[at + 2] = c;
-            coin[at + 3] = d;
-        }
-
         int addBuyer(int good, int many, int often) {
             if (buyers >= MOST_BUYERS) {
                 return NONE;
@@ -831,6 +818,15 @@ public final class SlotCoins {
             chance[buyers] = often;
             buyers++;
             return buyers - 1;
+        }
+
+        /** Stands alone because a method takes only seven parameters. */
+        void tellCoins(int buyer, int a, int b, int c, int d) {
+            int at = buyer * BUYER_COINS;
+            coin[at] = a;
+            coin[at + 1] = b;
+            coin[at + 2] = c;
+            coin[at + 3] = d;
         }
 
         int addMachine(int has, int most) {

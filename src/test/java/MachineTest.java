@@ -9,6 +9,7 @@ public final class MachineTest {
         slugsAndStrings();
         fewestCoins();
         fullTubes();
+        allCoinsGiven();
         refunds();
         tubesAndBag();
         lacks();
@@ -214,6 +215,32 @@ public final class MachineTest {
         Check.due("the first that lay there", x.tube(0, 2), 0);
         Check.due("the other is in the bag", x.bag(3), 1);
         Check.due("not the right one", x.bag(0), 0);
+    }
+
+    /** The dearest CHANGE that can be: every coin of eight full TUBES. */
+    private static void allCoinsGiven() {
+        SlotCoins x = new SlotCoins();
+        for (int k = 0; k < 7; k++) {
+            Check.plain(x, 1, 10 + k);
+        }
+        Check.plain(x, 36, 50);
+        Check.tell(x, "gate weight 50 50 yes take 7 no back;");
+        for (int k = 0; k < 8; k++) {
+            x.load(k, k, 20);
+        }
+        for (int i = 0; i < 12; i++) {
+            x.put(7, 50, 10, 10, 1);
+        }
+        x.offer(3);
+        x.offer(4);
+        Check.due("861 is too much", x.sale(0), -1);
+        Check.due("860 is all", x.sale(1), 160);
+        Check.due("the first", x.given(0), 0);
+        Check.due("the last of the ones", x.given(139), 6);
+        Check.due("the last", x.given(159), 7);
+        Check.due("no more", x.given(160), -1);
+        Check.due("twelve in", x.tube(7, 0), 12);
+        Check.due("wheel", x.wheel(7, 0), 24 - 20);
     }
 
     private static void refunds() {

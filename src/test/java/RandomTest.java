@@ -120,15 +120,25 @@ public final class RandomTest {
     }
 
     private void play() {
-        if (chance(50)) {
-            openShop();
-        } else {
-            tellAnything();
+        if (chance(15)) {
+            call("image", 2);
+            open();
+            call("image", 1);
+            call("restore", 2);
         }
+        open();
         int theme = dice.nextInt(5);
         int length = from(20, chance(10) ? 480 : 120);
         for (int i = 0; i < length && !differs; i++) {
             step(chance(40) ? theme : dice.nextInt(5));
+        }
+    }
+
+    private void open() {
+        if (chance(50)) {
+            openShop();
+        } else {
+            tellAnything();
         }
     }
 

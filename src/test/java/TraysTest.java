@@ -6,6 +6,7 @@ public final class TraysTest {
         pours();
         images();
         imagesKeepAll();
+        imagesOfOthers();
         counts();
         Check.end();
     }
@@ -168,6 +169,39 @@ public final class TraysTest {
         Check.due("most", x.most(1), 4);
         Check.due("machines", x.count(5), 1);
         Check.due("rounds", x.rounds(8, -1), 0);
+    }
+
+    /** What was told once comes back, though something else bore its number in between. */
+    private static void imagesOfOthers() {
+        SlotCoins x = new SlotCoins();
+        x.image(0);
+        x.sort(10, 2, 5);
+        x.offer(10);
+        x.buyer(0, 0, 0, -1, -1, 3);
+        x.machine(1, 1);
+        x.load(0, 0, 2);
+        x.set(0, 2);
+        x.image(1);
+        x.restore(0);
+        x.sort(7, 0, 1);
+        x.sort(3, 0, 9);
+        x.offer(1);
+        x.offer(7);
+        x.buyer(1, 1, -1, -1, -1, 8);
+        x.machine(5, 5);
+        Check.due("the other", x.made(1), 3);
+        x.restore(1);
+        Check.due("value", x.made(1), 10);
+        Check.due("days", x.good(0), true);
+        x.set(0, 5);
+        Check.due("to the last", x.good(0), true);
+        Check.due("the buyer, who gets change", x.most(1), 3);
+        Check.due("buys the first good", x.price(0, 21), 10);
+        Check.due("for two tens", x.most(1), 0);
+        x.price(0, 20);
+        Check.due("two", x.most(1), 3);
+        x.machine(1, 1);
+        Check.due("left 1, full 1", x.rounds(2, -1), 1);
     }
 
     private static void counts() {
