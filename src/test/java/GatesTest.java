@@ -10,6 +10,7 @@ public final class GatesTest {
         ways();
         warmth();
         counts();
+        manyStretches();
         wrongs();
         losses();
         bestMoves();
@@ -177,6 +178,25 @@ public final class GatesTest {
         Check.due("as 1", x.passes(0, 1), 10 * 50 * 100 + 20 * 100);
         Check.due("as 0", x.passes(0, 0), 70 * 10000);
         Check.due("refused", x.passes(0, -1), 1000000 - 52000 - 700000);
+    }
+
+    /** Eight GATES of one measure cut it into seventeen stretches. */
+    private static void manyStretches() {
+        for (int m = 0; m < 3; m++) {
+            SlotCoins x = new SlotCoins();
+            x.sort(5, 0, 9);
+            x.sort(7, 0, 9);
+            x.span(0, m, 0, 99);
+            StringBuilder text = new StringBuilder();
+            for (int g = 0; g < 8; g++) {
+                text.append("gate ").append(new String[] {"weight", "width", "ring"}[m]).append(' ').append(10 * g + 5).append(' ')
+                    .append(10 * g + 5 + g).append(g % 2 == 0 ? " yes take 0 no next;" : " yes take 1 no next;");
+            }
+            Check.due("eight", Check.tell(x, text.toString()), 8);
+            Check.due("as 0", x.passes(0, 0), 1 + 3 + 5 + 7);
+            Check.due("as 1", x.passes(0, 1), 2 + 4 + 6 + 8);
+            Check.due("refused", x.passes(0, -1), 100 - 36);
+        }
     }
 
     private static void wrongs() {

@@ -10,9 +10,11 @@ public final class MachineTest {
         fewestCoins();
         fullTubes();
         allCoinsGiven();
+        dearestChange();
         refunds();
         tubesAndBag();
         lacks();
+        lacksAtTheEnd();
         lacksWithout();
         madePrices();
         Check.end();
@@ -243,6 +245,27 @@ public final class MachineTest {
         Check.due("wheel", x.wheel(7, 0), 24 - 20);
     }
 
+    /** The greatest sum that can be above a PRICE. */
+    private static void dearestChange() {
+        SlotCoins x = new SlotCoins();
+        Check.plain(x, 200, 10);
+        Check.plain(x, 199, 20);
+        Check.plain(x, 200, 30);
+        Check.tell(x, "gate weight 10 10 yes take 0 no back;");
+        x.load(0, 0, 20);
+        x.load(1, 1, 20);
+        x.load(2, 2, 20);
+        for (int i = 0; i < 12; i++) {
+            x.put(0, 10, 10, 10, 1);
+        }
+        Check.due("credit", x.credit(), 4800);
+        x.offer(1);
+        Check.due("23 of 200 and one of 199", x.sale(0), 24);
+        Check.due("twenty of sort 0", x.given(19), 0);
+        Check.due("one of sort 1", x.given(20), 1);
+        Check.due("three of sort 2", x.given(21), 2);
+    }
+
     private static void refunds() {
         SlotCoins x = shop();
         Check.due("nothing", x.refund(), 0);
@@ -300,6 +323,16 @@ public final class MachineTest {
         Check.due("7 8 9 of each ten", x.lacks(0, 0), 60);
         Check.due("7 above", x.lacks(0, 1), 14);
         Check.due("three in a row", x.lacks(0, 2), 3);
+    }
+
+    private static void lacksAtTheEnd() {
+        SlotCoins x = shop();
+        x.offer(3);
+        x.load(0, 0, 19);
+        x.load(2, 2, 9);
+        Check.due("only 200 above", x.lacks(0, 0), 1);
+        Check.due("that one", x.lacks(0, 1), 203);
+        Check.due("alone", x.lacks(0, 2), 1);
     }
 
     private static void lacksWithout() {

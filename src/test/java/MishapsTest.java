@@ -5,6 +5,7 @@ public final class MishapsTest {
         costs();
         explained();
         slugsThatCross();
+        slugsFirst();
         Check.end();
     }
 
@@ -112,5 +113,25 @@ public final class MishapsTest {
         x.span(2, 0, 10, 19);
         Check.due("2 passes as 0 alone now", x.explain(1), 2);
         Check.due("two slugs, four stuck, two missing", x.explain(0), 8);
+    }
+
+    /** The slug is SORT 0, and there are fewer of it than of what lacks; then it passes as nothing. */
+    private static void slugsFirst() {
+        SlotCoins x = new SlotCoins();
+        Check.plain(x, 0, 10);
+        Check.plain(x, 10, 10);
+        Check.plain(x, 0, 20);
+        Check.tell(x, "gate weight 10 10 yes take 1 no back;");
+        for (int i = 0; i < 5; i++) {
+            x.put(1, 10, 10, 10, 2);
+        }
+        x.put(0, 10, 10, 10, 3);
+        Check.due("one slug", x.explain(1), 1);
+        Check.due("and four missing", x.explain(0), 5);
+        Check.tell(x, "gate weight 20 20 yes take 1 no back;");
+        x.put(2, 20, 10, 10, 3);
+        x.put(2, 20, 10, 10, 3);
+        Check.due("two of the other", x.explain(2), 2);
+        Check.due("one stuck, two slugs, three missing", x.explain(0), 6);
     }
 }
