@@ -10,6 +10,7 @@ public final class EdgesOfBuyersTest {
         takenAsTheyAre();
         slideAside();
         noRoomIsGone();
+        coinsThatComeIn();
         changeAheadOfCoins();
         chancesMultiplied();
         oneSeesWhoComes();
@@ -25,6 +26,8 @@ public final class EdgesOfBuyersTest {
         filledThenDry();
         filledIsFull();
         firstRow();
+        firstOfAllRows();
+        askedAnew();
         anotherDay();
         withoutMachines();
         daysRefused();
@@ -69,6 +72,14 @@ public final class EdgesOfBuyersTest {
         Check.due("no coin more than four", x.serve(1, 3), -1);
         x.price(1, 24);
         Check.due("no coin less", x.serve(1, 3), -1);
+        SlotCoins y = shop();
+        for (int b = 0; b < 5; b++) {
+            Check.due("four coins each", y.buyer(1, 2, 2, 0, 2, 1), b);
+        }
+        for (int b = 0; b < 5; b++) {
+            Check.due("served " + b, y.serve(3, b), 1);
+        }
+        Check.due("all", y.most(3), 3 * 125);
     }
 
     /** Promise 35: "what is told behind a NONE isn't asked)" */
@@ -206,6 +217,77 @@ public final class EdgesOfBuyersTest {
         Check.due("two", y.most(2), 1 * (9 + 1) + 8 * 1);
         y.price(1, 3);
         Check.due("one brings just the change of 20", y.most(2), 1 * (9 + 9) + 8 * 1);
+        roomForSome();
+    }
+
+    /** Four fives come where there is room for some: the next one wants 19 or 20 of them as change. */
+    private static void roomForSome() {
+        for (int has = 14; has <= 20; has++) {
+            for (int wanted = 18; wanted <= 21; wanted++) {
+                SlotCoins x = new SlotCoins();
+                x.sort(5, 0, 9);
+                x.sort(200, 0, 9);
+                x.load(0, 0, has);
+                x.offer(20);
+                x.offer(200 - 5 * wanted);
+                x.buyer(0, 0, 0, 0, 0, 1);
+                x.buyer(1, 1, -1, -1, -1, 9);
+                int due = wanted <= Math.min(20, has + 4) ? 1 : -1;
+                int now = wanted <= has ? 1 : -1;
+                Check.due(has + " there, " + wanted + " wanted", x.serve(1, 1), now);
+                long one = 1 + (now == 1 ? 9 : 0);
+                long then = 1 + (due == 1 ? 9 : 0);
+                long behind = 1 + (now == 1 && has - wanted >= wanted ? 9 : 0);
+                Check.due(has + " there, " + wanted + " wanted behind four", x.most(2),
+                    Math.max(10 + then, one) + 9 * (now == 1 ? Math.max(10 + behind, one) : one));
+            }
+        }
+    }
+
+    /** Promise 36: "a GOOD, 1 to 4 SORTS that are put in" */
+    private static void coinsThatComeIn() {
+        for (int brought = 1; brought <= 4; brought++) {
+            for (int wanted = 1; wanted <= 4; wanted++) {
+                for (int ahead = 0; ahead <= 3; ahead++) {
+                    // Two who bring, one who brings and one of two who want; all others can't be served.
+                    int due = 6 + 2 * ahead + (wanted <= brought ? 2 : 0);
+                    Check.due(brought + " come, " + wanted + " are wanted, " + ahead + " ahead", bringers(brought, wanted, ahead).most(2), due);
+                }
+            }
+        }
+        SlotCoins x = new SlotCoins();
+        x.sort(5, 0, 9);
+        x.sort(20, 0, 9);
+        x.sort(1, 0, 9);
+        x.offer(31);
+        x.offer(15);
+        x.offer(19);
+        x.buyer(0, 0, 1, 2, 0, 1);
+        x.buyer(1, 1, -1, -1, -1, 1);
+        x.buyer(2, 1, -1, -1, -1, 1);
+        Check.due("one", x.most(1), 1);
+        Check.due("two", x.most(2), 3 * 2 + 1 + 1);
+        // The first one brings two fives and a one, so that of three only one that wants a second one isn't served.
+        Check.due("three", x.most(3), 8 * 3 + 2 + 2 * 8);
+    }
+
+    /** A buyer that brings so many fives, one that wants so many as change, and ahead of them some that can't be served. */
+    private static SlotCoins bringers(int brought, int wanted, int ahead) {
+        SlotCoins x = new SlotCoins();
+        for (int k = 0; k < ahead; k++) {
+            x.sort(0, 0, 9);
+        }
+        int five = x.sort(5, 0, 9);
+        int note = x.sort(25, 0, 9);
+        x.offer(5 * brought);
+        x.offer(25 - 5 * wanted);
+        x.offer(500);
+        for (int b = 0; b < ahead; b++) {
+            x.buyer(2, note, note, note, note, 1);
+        }
+        x.buyer(0, five, brought > 1 ? five : -1, brought > 2 ? five : -1, brought > 3 ? five : -1, 1);
+        x.buyer(1, note, -1, -1, -1, 2);
+        return x;
     }
 
     /** Promise 36: "SERVED: a SALE as above" */
@@ -489,6 +571,85 @@ public final class EdgesOfBuyersTest {
         z.machine(2, 5);
         row(z, 2, 0, "00");
         row(z, 3, 0, "100");
+    }
+
+    /** Promise 39: "the first row of those that are filled, by which that is so." */
+    private static void firstOfAllRows() {
+        int[][] lefts = {{0}, {5}, {1, 1}, {0, 2}, {3, 0}, {1, 0, 2}, {5, 5, 5}, {0, 0, 0}, {2, 1, 0, 3}, {1, 1, 1, 1}, {0, 5, 0, 5}};
+        int[][] fulls = {{1}, {1}, {2, 1}, {1, 5}, {3, 3}, {3, 3, 3}, {1, 1, 5}, {1, 2, 3}, {4, 1, 2, 3}, {2, 2, 2, 2}, {5, 1, 1, 5}};
+        for (int i = 0; i < lefts.length; i++) {
+            SlotCoins x = new SlotCoins();
+            for (int m = 0; m < lefts[i].length; m++) {
+                x.machine(lefts[i][m], fulls[i][m]);
+            }
+            for (int h = 1; h <= (lefts[i].length > 3 ? 6 : 8); h++) {
+                int[] best = bestRow(lefts[i], fulls[i], h);
+                StringBuilder due = new StringBuilder();
+                for (int day = 0; day < h; day++) {
+                    due.append(best[day]);
+                }
+                row(x, h, best[h], due.toString());
+            }
+        }
+    }
+
+    /** All rows one by one, the first one of the fewest dry; how many these are stands behind it. */
+    private static int[] bestRow(int[] left, int[] full, int h) {
+        int[] row = new int[h];
+        int[] best = new int[h + 1];
+        best[h] = Integer.MAX_VALUE;
+        boolean more = true;
+        while (more) {
+            int dry = dryBy(left.clone(), full, row);
+            if (dry < best[h]) {
+                System.arraycopy(row, 0, best, 0, h);
+                best[h] = dry;
+            }
+            int at = h - 1;
+            while (at >= 0 && row[at] == left.length - 1) {
+                row[at] = 0;
+                at--;
+            }
+            more = at >= 0;
+            if (more) {
+                row[at]++;
+            }
+        }
+        return best;
+    }
+
+    private static int dryBy(int[] left, int[] full, int[] row) {
+        int dry = 0;
+        for (int filled : row) {
+            left[filled] = full[filled];
+            for (int m = 0; m < left.length; m++) {
+                dry += left[m] == 0 ? 1 : 0;
+                left[m] = Math.max(0, left[m] - 1);
+            }
+        }
+        return dry;
+    }
+
+    /** Promise 39: "LEAST DRY of h DAYS (day NONE)" */
+    private static void askedAnew() {
+        SlotCoins x = new SlotCoins();
+        x.machine(1, 2);
+        x.image(0);
+        x.machine(1, 5);
+        Check.due("two", x.rounds(8, -1), 0);
+        Check.due("one more", x.machine(0, 1), 2);
+        Check.due("three", x.rounds(8, -1), bestRow(new int[] {1, 1, 0}, new int[] {2, 5, 1}, 8)[8]);
+        x.restore(0);
+        Check.due("one again", x.rounds(8, -1), 0);
+        x.machine(1, 1);
+        int[] row = bestRow(new int[] {1, 1}, new int[] {2, 1}, 8);
+        for (int day = 0; day < 8; day++) {
+            Check.due("another second one, day " + day, x.rounds(8, day), row[day]);
+        }
+        Check.due("another second one", x.rounds(8, -1), row[8]);
+        x.restore(0);
+        x.machine(1, 5);
+        Check.due("the first two", x.rounds(8, -1), bestRow(new int[] {1, 1}, new int[] {2, 5}, 8)[8]);
     }
 
     private static void row(SlotCoins x, int h, int dry, String due) {

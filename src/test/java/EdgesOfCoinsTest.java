@@ -40,6 +40,15 @@ public final class EdgesOfCoinsTest {
         return x;
     }
 
+    /** Each of the eight is good on a day of its own. */
+    private static SlotCoins eightDays() {
+        SlotCoins x = new SlotCoins();
+        for (int k = 0; k < 8; k++) {
+            x.sort(11 + k, k, k);
+        }
+        return x;
+    }
+
     /** Promise 1: "Nothing is told" */
     private static void nothingTold() {
         SlotCoins x = new SlotCoins();
@@ -106,7 +115,8 @@ public final class EdgesOfCoinsTest {
         Check.due("nothing of 100", x.lacks(x.offer(1), 0), 200);
         x.set(0, 20);
         Check.due("no days of the ninth", x.made(1), -1);
-        Edges.changesNothing("a ninth sort", EdgesOfCoinsTest::eight, y -> y.sort(100, 0, 9));
+        Edges.changesNothing("a ninth sort", EdgesOfCoinsTest::eightDays, y -> y.sort(100, 0, 9));
+        Edges.changesNothing("a ninth slug", EdgesOfCoinsTest::eightDays, y -> y.sort(0, 0, 0));
     }
 
     /** Promise 2: "IllegalArgumentException: VALUE, DAYS (from above to)." */

@@ -15,6 +15,7 @@ public final class EdgesOfGatesTest {
         howManyCoins();
         wornCoins();
         takenAs();
+        countedExactly();
         passesOfBoth();
         passesAsItself();
         roundedDown();
@@ -291,6 +292,59 @@ public final class EdgesOfGatesTest {
         x.set(0, 10);
         Check.due("none is good: all refused", x.passes(0, -1), 1000000);
         Check.due("none as 2", x.passes(0, 2), 0);
+    }
+
+    /** Promise 14: "how many of its COINS are TAKEN AS k" */
+    private static void countedExactly() {
+        String[] texts = {
+            "gate weight 41 42 yes next no skip;gate width 11 12 yes take 1 no next;gate ring 50 51 yes take 0 no skip;gate width 9 11 yes take 2 no next;",
+            "gate ring 52 99 yes take 0 no next;gate width 10 10 yes skip no next;gate weight 43 99 yes take 1 no next;gate weight 40 41 yes take 2 no take 7;",
+            "gate width 12 13 yes skip no skip;gate ring 0 99 yes take 0 no take 0;gate width 13 13 yes take 1 no next;gate ring 51 51 yes take 2 no back;",
+            Edges.SHUT,
+        };
+        for (String text : texts) {
+            for (int warmth = -2; warmth <= 2; warmth++) {
+                SlotCoins x = new SlotCoins();
+                for (int k = 0; k < 3; k++) {
+                    x.sort(1 + k, 0, 9);
+                }
+                x.set(2, warmth);
+                x.span(0, 0, 40, 44);
+                x.span(0, 1, 9, 13);
+                x.span(0, 2, 49, 53);
+                Check.tell(x, text);
+                int[] many = new int[4];
+                for (int i = 0; i < 125; i++) {
+                    many[x.taken(40 + i % 5, 9 + i / 5 % 5, 49 + i / 25) + 1]++;
+                }
+                for (int as = -1; as < 3; as++) {
+                    Check.due("as " + as + " by " + text, x.passes(0, as), many[as + 1]);
+                }
+            }
+        }
+        seventeenStretches();
+    }
+
+    /** Eight GATES of one measure cut it into seventeen stretches. */
+    private static void seventeenStretches() {
+        for (int m = 0; m < 3; m++) {
+            SlotCoins x = new SlotCoins();
+            for (int k = 0; k < 8; k++) {
+                x.sort(1 + k, 0, 9);
+            }
+            x.span(0, m, 0, 99);
+            x.span(0, (m + 1) % 3, 7, 9);
+            StringBuilder text = new StringBuilder();
+            for (int g = 0; g < 8; g++) {
+                text.append("gate ").append(MEASURES[m]).append(' ').append(11 * g + 3).append(' ').append(12 * g + 3).append(" yes take ")
+                    .append(g).append(" no next;");
+            }
+            Check.due("eight", Check.tell(x, text.toString()), 8);
+            for (int g = 0; g < 8; g++) {
+                Check.due("as " + g, x.passes(0, g), 3 * (g + 1));
+            }
+            Check.due("refused", x.passes(0, -1), 3 * (100 - 36));
+        }
     }
 
     /** Promise 14: "NoSuchElementException: no such SORT (of both)." */

@@ -30,6 +30,7 @@ public final class EdgesOfMachineTest {
         changeByValues();
         fewestCoins();
         mostOfFirstSorts();
+        greatestChange();
         changeFromTheTops();
         sortBySort();
         slideToTubes();
@@ -328,9 +329,12 @@ public final class EdgesOfMachineTest {
         return x;
     }
 
+    /** Two coins were given back before, and twelve lie on the slide. */
     private static SlotCoins twelve() {
         SlotCoins x = shop();
         x.offer(10);
+        putMany(x, 1, 0, 2);
+        x.refund();
         putMany(x, 0, 0, 5);
         putMany(x, 2, 1, 4);
         putMany(x, 3, 2, 3);
@@ -576,6 +580,69 @@ public final class EdgesOfMachineTest {
         change(6, new int[] {100, 100, 100, 100, 100, 3, 3}, new int[] {1, 1, 1, 1, 1, 1, 2}, "56");
     }
 
+    /** Promise 24: "how many coins are GIVEN" */
+    private static void greatestChange() {
+        SlotCoins all = new SlotCoins();
+        for (int k = 0; k < 7; k++) {
+            Check.plain(all, 1, 10 + k);
+        }
+        Check.plain(all, 36, 50);
+        Check.tell(all, "gate weight 50 50 yes take 7 no back;");
+        for (int k = 0; k < 8; k++) {
+            all.load(k, k, 20);
+        }
+        for (int i = 0; i < 12; i++) {
+            all.put(7, 50, 10, 10, 1);
+        }
+        all.offer(3);
+        Check.due("861 is more than all", all.sale(0), -1);
+        all.price(0, 4);
+        StringBuilder due = new StringBuilder();
+        for (int k = 0; k < 8; k++) {
+            due.append(("" + k).repeat(20));
+        }
+        gives("every coin of eight full tubes", all, all.sale(0), due.toString());
+        Check.due("twelve came", all.tube(7, 0), 12);
+        Check.due("none is left", all.tube(6, 0), 0);
+        Check.due("wheel of 7", all.wheel(7, 0), 24 - 20);
+        greatestSum();
+        lastSortsChange();
+    }
+
+    private static void greatestSum() {
+        SlotCoins x = new SlotCoins();
+        int[] values = {200, 199, 200, 200, 200, 200, 200, 200};
+        for (int k = 0; k < 8; k++) {
+            Check.plain(x, values[k], 10 + k);
+            x.load(k, k, 20);
+        }
+        Check.tell(x, "gate weight 10 10 yes take 0 no back;");
+        x.offer(1);
+        for (int i = 0; i < 12; i++) {
+            x.put(0, 10, 10, 10, 1);
+        }
+        Check.due("credit", x.credit(), 4800);
+        gives("4799", x, x.sale(0), "0".repeat(20) + "1222");
+    }
+
+    /** Of eight SORTS the last ones give change, one to four coins of each. */
+    private static void lastSortsChange() {
+        for (int sum = 0; sum <= 24; sum++) {
+            SlotCoins x = new SlotCoins();
+            for (int k = 0; k < 6; k++) {
+                Check.plain(x, 100, 10 + k);
+            }
+            Check.plain(x, 5, 20);
+            Check.plain(x, 1, 21);
+            Check.tell(x, "gate weight 10 10 yes take 0 no back;");
+            x.load(6, 6, 4);
+            x.load(7, 7, 4);
+            x.offer(100 - sum);
+            x.put(0, 10, 10, 10, 0);
+            gives("of " + sum, x, x.sale(0), "6".repeat(sum / 5) + "7".repeat(sum % 5));
+        }
+    }
+
     /** Promise 24: "First the CHANGE is taken from the tops of TUBES (WHEELS fall by as many)" */
     private static void changeFromTheTops() {
         SlotCoins x = shop();
@@ -688,6 +755,8 @@ public final class EdgesOfMachineTest {
         x.price(0, 87);
         Check.due("no change of 1", x.sale(0), -1);
         Check.due("the credit stays", x.credit(), 88);
+        Check.due("what was given before stays", x.count(7), 2);
+        Check.due("two fives", x.given(1), 1);
         Edges.changesNothing("a sale below the price", () -> priced(89), y -> y.sale(0));
         Edges.changesNothing("a sale without change", () -> priced(87), y -> y.sale(0));
         Edges.changes("a sale", () -> priced(88), y -> y.sale(0));

@@ -15,6 +15,7 @@ public final class EdgesOfMishapsTest {
         oneMoreByStuck();
         oneLessByTheCheaper();
         slugsThatPass();
+        slugsOfAnySort();
         onlyWhatIsOdd();
         noSlugThroughAnother();
         leastCost();
@@ -301,6 +302,37 @@ public final class EdgesOfMishapsTest {
         explained("a coin of a value can be the slug", y, 1, 1, 1);
         y.set(0, 1);
         explained("as what isn't good none passes", y, 2, 0, 0);
+    }
+
+    /** Promise 34: "a coin of SORT i (1 more) was TAKEN AS k (1 less)" */
+    private static void slugsOfAnySort() {
+        for (int slug = 0; slug < 8; slug++) {
+            for (int as = 0; as < 8; as++) {
+                if (slug != as) {
+                    slugAs(slug, as);
+                }
+            }
+        }
+    }
+
+    /** One SORT of eight that is too many, and one that lacks: now fewer of the one, now of the other. */
+    private static void slugAs(int slug, int as) {
+        SlotCoins x = new SlotCoins();
+        for (int k = 0; k < 8; k++) {
+            Check.plain(x, 1 + k, 10);
+        }
+        Check.tell(x, "gate weight 10 10 yes take " + as + " no back;");
+        for (int i = 0; i < 3; i++) {
+            x.put(as, 10, 10, 10, 2);
+        }
+        x.put(slug, 10, 10, 10, 3);
+        explained(slug + " as " + as + ", 1 of 3", x, 3, 1, 1);
+        for (int i = 0; i < 4; i++) {
+            x.put(slug, 10, 10, 10, 3);
+        }
+        explained(slug + " as " + as + ", 5 of 3", x, 5, 3, 3);
+        x.span(slug, 0, 11, 11);
+        explained(slug + " isn't taken", x, 8, 0, 0);
     }
 
     /** Promise 34: "(none makes a SORT more whose ODD isn't above 0, or less whose ODD isn't below 0)" */

@@ -227,6 +227,30 @@ public final class EdgesOfTextTest {
                 }
             }
         }
+        SlotCoins x = new SlotCoins();
+        for (String measure : new String[] {"ring", "weight", "width", "weight", "ring", "width", "ring"}) {
+            Check.tell(x, "gate " + measure + " 0 99 yes next no skip;");
+            Check.due("told anew: " + measure, x.gate(0, 0), measure.equals("weight") ? 0 : measure.equals("width") ? 1 : 2);
+        }
+        otherWords();
+    }
+
+    /** Each word of a TEXT with a letter more, less or another: it can't stand there. */
+    private static void otherWords() {
+        String[] texts = {"gate ring 1 2 yes back no back;", "gate weight 1 2 yes take 3 no next;", "gate width 1 2 yes skip no take 3;"};
+        for (String text : texts) {
+            for (int i = 0; i < text.length(); i++) {
+                if (!Character.isLetter(text.charAt(i))) {
+                    continue;
+                }
+                int word = Math.max(text.lastIndexOf(' ', i), -1) + 1;
+                char other = text.charAt(i) == 'q' ? 'j' : 'q';
+                fault(text.substring(0, i) + other + text.substring(i + 1), 2, word);
+                fault(text.substring(0, i) + other + text.substring(i), 2, word);
+                String less = text.substring(0, i) + text.substring(i + 1);
+                fault(less, 2, word);
+            }
+        }
     }
 
     /** Promise 9: "TOKENS, as long as they go" */

@@ -1,3 +1,5 @@
+import java.util.function.Supplier;
+
 /** Boundary cases of the promises 40 to 45, and of the Terms that they use: a test for each sentence. */
 public final class EdgesOfTraysTest {
     public static void main(String[] args) {
@@ -20,6 +22,8 @@ public final class EdgesOfTraysTest {
         noSuchImageToRestore();
         noneWasMade();
         allAsItWas();
+        twoWorlds();
+        givenAndBuyers();
         tapeStays();
         faultStays();
         traysStay();
@@ -461,6 +465,118 @@ public final class EdgesOfTraysTest {
         Check.due("spans", y.coins(1), 1);
         Check.due("wear", y.wear(1, 0), 0);
         Check.due("bag", y.bag(1), 0);
+    }
+
+    /** Promise 44: "All is as in an IMAGE." */
+    private static void twoWorlds() {
+        Supplier<SlotCoins> made = () -> worlds(0);
+        for (int n = 3; n <= 5; n++) {
+            int between = n;
+            Supplier<SlotCoins> restored = () -> worlds(between);
+            Check.due("a world behind another: " + n, Look.at(restored.get()).equals(Look.at(made.get())), true);
+            whole("a world behind another: " + n, restored.get(), made.get());
+        }
+    }
+
+    /** Promise 44: "All is as in an IMAGE." */
+    private static void givenAndBuyers() {
+        SlotCoins x = sorts(3);
+        x.offer(3);
+        Check.tell(x, "gate weight 0 99 yes take 2 no back;");
+        x.image(0);
+        x.put(1, 0, 0, 0, 0);
+        x.put(2, 0, 0, 0, 0);
+        x.put(0, 0, 0, 0, 0);
+        x.refund();
+        x.buyer(0, 1, 2, -1, -1, 1);
+        x.image(1);
+        x.restore(0);
+        Check.due("nothing given yet", x.count(7) + x.given(0), -1);
+        x.put(2, 0, 0, 0, 0);
+        x.put(0, 0, 0, 0, 0);
+        x.put(1, 0, 0, 0, 0);
+        x.refund();
+        x.buyer(0, 1, -1, -1, -1, 1);
+        Check.due("1 of 3", x.serve(1, 0), -1);
+        x.restore(1);
+        Check.due("given first", x.given(0), 1);
+        Check.due("given then", x.given(1), 2);
+        Check.due("given last", x.given(2), 0);
+        Check.due("1 and 2", x.serve(1, 0), 1);
+    }
+
+    /** A world as IMAGE 1, and restored, if another one was told in between. */
+    private static SlotCoins worlds(int between) {
+        SlotCoins x = new SlotCoins();
+        x.image(0);
+        world(x, 2);
+        x.image(1);
+        if (between > 0) {
+            x.restore(0);
+            world(x, between);
+            x.restore(1);
+        }
+        return x;
+    }
+
+    /** What Look leaves out: coins one on the other, coins of the slide, days. */
+    private static void whole(String call, SlotCoins got, SlotCoins due) {
+        Check.due(call + ": given", got.given(0) * 10 + got.given(1), due.given(0) * 10 + due.given(1));
+        Check.due(call + ": most", got.most(2), due.most(2));
+        Check.due(call + ": dry", got.rounds(8, -1), due.rounds(8, -1));
+        Check.due(call + ": filled", got.rounds(8, 1), due.rounds(8, 1));
+        Check.due(call + ": explained", got.explain(0), due.explain(0));
+        Check.due(call + ": refund", got.refund(), due.refund());
+        for (int i = 0; i < due.count(7); i++) {
+            Check.due(call + ": given back " + i, got.given(i), due.given(i));
+        }
+        for (int k = 0; k < due.count(0); k++) {
+            Check.due(call + ": wheel " + k, got.wheel(k, 0), due.wheel(k, 0));
+            Check.due(call + ": emptied " + k, got.empty(k), due.empty(k));
+        }
+        for (int k = 0; k < due.count(0); k++) {
+            Check.due(call + ": bag " + k, got.bag(k), due.bag(k));
+        }
+        for (int day = 0; day < 20; day++) {
+            got.set(0, day);
+            due.set(0, day);
+            for (int k = 0; k < due.count(0); k++) {
+                Check.due(call + ": day " + day + " of " + k, got.good(k), due.good(k));
+            }
+            Check.due(call + ": made on day " + day, got.made(1), due.made(1));
+        }
+    }
+
+    /** A world in which everything that can be told is told by a number of its own. */
+    private static void world(SlotCoins x, int n) {
+        for (int k = 0; k < 3; k++) {
+            x.sort(n + 7 * k, k == 2 ? n : 0, 9 + n);
+            x.span(k, 0, n + k, n + 2 * k);
+            x.span(k, 1, n, n + k);
+            x.span(k, 2, n, n + 1);
+            x.wear(k, (n + k) % 3);
+            x.flow(k, n * k + 1);
+        }
+        x.set(0, n);
+        x.set(2, 1);
+        x.set(3, n + 5);
+        Check.tell(x, "gate weight " + n + " " + (n + 1) + " yes take 0 no next;gate width " + n + " 99 yes take " + n % 3 + " no back;");
+        x.offer(n);
+        x.offer(3 * n);
+        x.load(0, n % 2, 5);
+        x.load(0, 2, n);
+        x.load(2, 1, 2);
+        x.load(1, 0, n);
+        x.put(0, n, n, n, 1);
+        x.sale(0);
+        for (int way = 0; way < 4; way++) {
+            x.put(way % 3, n + way % 3, n, n, (way + n) % 4);
+        }
+        x.cost(n % 4, 7);
+        x.buyer(n % 2, 0, n % 2 == 0 ? 1 : -1, -1, -1, n);
+        x.buyer(1, 1, 2, n % 2 == 0 ? 0 : -1, -1, 2 * n - 1);
+        x.machine(n % 4, 6 - n);
+        x.machine(0, n);
     }
 
     /** Promise 44: "IMAGES 0 to 2: all but the tape" */

@@ -6,7 +6,7 @@ import java.util.function.LongSupplier;
  */
 final class Look {
     /** An object serves 512 calls; what made it took the others. */
-    private static final int MOST_CALLS = 420;
+    private static final int MOST_CALLS = 320;
 
     private final SlotCoins x;
     private final StringBuilder seen = new StringBuilder();
@@ -51,6 +51,9 @@ final class Look {
         settings();
         rest();
         gates();
+        slide();
+        tubes(sorts);
+        days();
         tape();
         images();
         trays(sorts);
@@ -138,6 +141,37 @@ final class Look {
                 see("gate " + g + " " + w, () -> x.gate(g, w));
             }
             see("loss " + g, () -> x.loss(g, 1, 0));
+        }
+    }
+
+    private void slide() {
+        see("refund", () -> x.refund());
+        for (int i = 0; i < 12; i++) {
+            int at = i;
+            see("given back " + i, () -> x.given(at));
+        }
+    }
+
+    /** The coins of each tube come to the bag, where they are counted by their sorts. */
+    private void tubes(int sorts) {
+        for (int tube = 0; tube < sorts; tube++) {
+            int t = tube;
+            see("wheel behind a refund " + t, () -> x.wheel(t, 0));
+            see("emptied " + t, () -> x.empty(t));
+            for (int k = 0; k < Math.min(sorts, 3); k++) {
+                int sort = k;
+                see("then bag " + k, () -> x.bag(sort));
+            }
+        }
+    }
+
+    /** What VALUES there are on which DAYS. */
+    private void days() {
+        for (int day = 0; day < 10; day++) {
+            int d = day;
+            see("day " + day, () -> x.set(0, d));
+            see("then made", () -> x.made(1));
+            see("and more", () -> x.made(50));
         }
     }
 
