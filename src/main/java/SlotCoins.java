@@ -11,6 +11,11 @@ public final class SlotCoins {
     private static final int TOP_MEASURE = 99;
     private static final int TOP_DAY = 999;
     private static final int TOP_VALUE = 200;
+    private static final int TOP_WEAR = 9;
+    private static final int TOP_FLOW = 1000;
+    private static final int TOP_AGE = 20;
+    private static final int TOP_WARMTH = 10;
+    private static final int TOP_REFUSAL = 999;
     private static final int MOST_GATES = 8;
     private static final int MOST_TEXT = 400;
     private static final int FED = 20;
@@ -22,6 +27,7 @@ public final class SlotCoins {
     private static final int KINDS = 4;
     private static final int MOST_BUYERS = 5;
     private static final int BUYER_COINS = 4;
+    private static final int TOP_CHANCE = 9;
     private static final int MOST_TURNS = 3;
     private static final int MOST_MACHINES = 4;
     private static final int TOP_LEFT = 5;
@@ -81,13 +87,13 @@ public final class SlotCoins {
 
     public int wear(int sort, int wear) throws NoSuchElementException, IllegalArgumentException {
         needSort(sort);
-        need(within(wear, 0, 9));
+        need(within(wear, 0, TOP_WEAR));
         return swap(now.sorts.wear, sort, wear);
     }
 
     public int flow(int sort, int flow) throws NoSuchElementException, IllegalArgumentException {
         needSort(sort);
-        need(within(flow, 0, 1000));
+        need(within(flow, 0, TOP_FLOW));
         return swap(now.sorts.flow, sort, flow);
     }
 
@@ -98,13 +104,13 @@ public final class SlotCoins {
                 need(within(v, 0, TOP_DAY));
                 break;
             case Sorts.AGE:
-                need(within(v, 0, 20));
+                need(within(v, 0, TOP_AGE));
                 break;
             case Sorts.WARMTH:
-                need(within(v, -10, 10));
+                need(within(v, -TOP_WARMTH, TOP_WARMTH));
                 break;
             default:
-                need(within(v, 0, TOP_COST));
+                need(within(v, 0, TOP_REFUSAL));
                 break;
         }
         return swap(now.sorts.setting, what, v);
@@ -374,7 +380,7 @@ public final class SlotCoins {
                 }
             }
         }
-        need(within(chance, 1, 9));
+        need(within(chance, 1, TOP_CHANCE));
         int number = now.addBuyer(good, coins, chance);
         if (number != NONE) {
             now.tellCoins(number, a, b, c, d);

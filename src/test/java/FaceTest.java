@@ -21,6 +21,7 @@ public final class FaceTest {
         face();
         hidden();
         nested();
+        sections(Files.readString(DOCUMENT), Files.readString(SOURCE));
         words(Files.readString(SOURCE));
         sizes(Files.readAllLines(SOURCE));
         Check.end();
@@ -56,6 +57,26 @@ public final class FaceTest {
         Check.due("methods of the document", due.size(), 44);
         Check.due("the face " + got + " as in the document " + due, got.equals(due), true);
         Check.due("final", Modifier.isFinal(SlotCoins.class.getModifiers()), true);
+    }
+
+    /** The calls stand in the document's order, each under the line that the interface says ahead of it. */
+    private static void sections(String document, String source) {
+        Matcher m = Pattern.compile("^Ahead of the calls (.*) the interface says: (---- .*)\\.$", Pattern.MULTILINE).matcher(document);
+        int at = 0;
+        int calls = 0;
+        while (m.find()) {
+            int heading = source.indexOf("    // " + m.group(2) + "\n", at);
+            Check.due(m.group(2) + " stands in its place", heading > at, true);
+            at = Math.max(at, heading);
+            for (String call : m.group(1).replace("`", "").split(", ")) {
+                Matcher face = Pattern.compile("^    public \\w+ " + call + "\\(", Pattern.MULTILINE).matcher(source);
+                boolean follows = face.find(at);
+                Check.due(call + " stands in its place", follows, true);
+                at = follows ? face.start() : at;
+                calls++;
+            }
+        }
+        Check.due("calls under headings", calls, 44);
     }
 
     private static void hidden() {
